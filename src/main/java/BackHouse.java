@@ -25,13 +25,14 @@ public final class BackHouse {
     private final Shelf[] shelves;
 
     public BackHouse() {
-        world = new World();
+        World one = new World();
+        world = one;
         changes = new Changes();
         reader = new Reader();
-        thought = new Drive(world);
-        table = new Table(world);
+        thought = new Drive(one);
+        table = new Table(one);
         draw = new Draw();
-        journey = new Journey(world);
+        journey = new Journey(one);
         acts = new Acts();
         shelves = new Shelf[SHELVES];
         for (int i = 0; i < shelves.length; i++) {
@@ -609,12 +610,14 @@ public final class BackHouse {
             if (done >= MOST) {
                 forgetOldest();
             }
-            what[done] = whatNow;
-            number[done] = numberNow;
-            before[done] = was;
-            after[done] = is;
-            done++;
-            kept = done;
+            if (done >= 0) {
+                what[done] = whatNow;
+                number[done] = numberNow;
+                before[done] = was;
+                after[done] = is;
+                done++;
+                kept = done;
+            }
         }
 
         private void forgetOldest() {

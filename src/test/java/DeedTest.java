@@ -20,14 +20,6 @@ public final class DeedTest {
         Due.close();
     }
 
-    private static BackHouse withThings(int... pairs) {
-        BackHouse x = new BackHouse();
-        for (int i = 0; i + 1 < pairs.length; i += 2) {
-            x.thing(pairs[i], pairs[i + 1]);
-        }
-        return x;
-    }
-
     private static void driveToTheEnd(BackHouse x) {
         for (int i = 0; i < 7 && x.led(AT) != BackHouse.NOT; i++) {
             x.on();
@@ -42,10 +34,10 @@ public final class DeedTest {
 
     private static void lock() {
         // From 1 on the draws are 2, 8, 0 and 11 by twelve.
-        Due.due("two of four", withThings(3, 0, 8, 0, 1, 0, 11, 0).lock(1), 2);
-        Due.due("four of four", withThings(3, 0, 9, 0, 1, 0, 12, 0).lock(1), 4);
-        Due.due("none of four", withThings(2, 0, 8, 0, 0, 0, 11, 0).lock(1), 0);
-        BackHouse x = withThings(3, 0, 8, 0, 1, 0, 11, 0);
+        Due.due("two of four", Houses.withThings(3, 0, 8, 0, 1, 0, 11, 0).lock(1), 2);
+        Due.due("four of four", Houses.withThings(3, 0, 9, 0, 1, 0, 12, 0).lock(1), 4);
+        Due.due("none of four", Houses.withThings(2, 0, 8, 0, 0, 0, 11, 0).lock(1), 0);
+        BackHouse x = Houses.withThings(3, 0, 8, 0, 1, 0, 11, 0);
         x.lock(1);
         Due.due("a drive is on", x.lock(1), BackHouse.STATE);
         ledIs("locked", x, 0, 0, 0, 0, 0, 0, 0);
@@ -72,7 +64,7 @@ public final class DeedTest {
     }
 
     private static void ledStopByStop() {
-        BackHouse x = withThings(12, 0, 12, 2, 12, 2, 12, 4);
+        BackHouse x = Houses.withThings(12, 0, 12, 2, 12, 2, 12, 4);
         x.mend(0, SETS_OFF, 2);
         x.mend(2, WORTH, 13);
         x.mend(3, WORTH, 9);
@@ -89,7 +81,7 @@ public final class DeedTest {
     }
 
     private static void likeADriveInThought() {
-        BackHouse x = withThings(12, 0, 112, 1, 212, 3, 312, 6, 412, 6, 512, 5);
+        BackHouse x = Houses.withThings(12, 0, 112, 1, 212, 3, 312, 6, 412, 6, 512, 5);
         x.mend(0, SETS_OFF, 8);
         x.mend(1, WORTH, 7);
         x.mend(4, WORTH, 60);
@@ -104,7 +96,7 @@ public final class DeedTest {
     }
 
     private static void mendedOnTheWay() {
-        BackHouse x = withThings(12, 1, 12, 5);
+        BackHouse x = Houses.withThings(12, 1, 12, 5);
         x.lock(0);
         x.on();
         x.mend(0, STOP, 0);
@@ -125,7 +117,7 @@ public final class DeedTest {
     }
 
     private static void whatWasLeftStays() {
-        BackHouse x = withThings(12, 1, 12, 2, 12, 3);
+        BackHouse x = Houses.withThings(12, 1, 12, 2, 12, 3);
         x.mend(0, WORTH, 6);
         x.mend(1, WORTH, 99);
         x.mend(1, SETS_OFF, 1);
@@ -160,7 +152,7 @@ public final class DeedTest {
     }
 
     private static void image() {
-        BackHouse x = withThings(12, 0, 12, 2);
+        BackHouse x = Houses.withThings(12, 0, 12, 2);
         Due.due("there is none", x.back(), BackHouse.STATE);
         x.lock(0);
         x.on();
@@ -169,6 +161,9 @@ public final class DeedTest {
         x.mend(1, WORTH, 99);
         driveToTheEnd(x);
         ledIs("over", x, 18 + 3 + 12 + 3, 2, 1, 0, 1, 36, BackHouse.NOT);
+        x.mend(1, CHANCE, 0);
+        Due.due("another drive forgets less", x.lock(0), 1);
+        x.on();
         Due.due("back()", x.back(), 6);
         ledIs("laid back", x, 6, 1, 0, 0, 0, 0, 1);
         Due.due("a drive is on", x.lock(0), BackHouse.STATE);
@@ -186,7 +181,7 @@ public final class DeedTest {
     }
 
     private static void imageOfADriveThatIsOver() {
-        BackHouse x = withThings(12, 6);
+        BackHouse x = Houses.withThings(12, 6);
         Due.due("an image of none", x.image(), 0);
         x.lock(0);
         driveToTheEnd(x);
@@ -205,7 +200,7 @@ public final class DeedTest {
     }
 
     private static void undoAndRedo() {
-        BackHouse x = withThings(206, 3);
+        BackHouse x = Houses.withThings(206, 3);
         Due.due("undo() of none", x.undo(), BackHouse.STATE);
         Due.due("redo() of none", x.redo(), BackHouse.STATE);
         x.mend(0, WORTH, 20);
@@ -238,7 +233,7 @@ public final class DeedTest {
     }
 
     private static void fortyAtMost() {
-        BackHouse x = withThings(6, 0);
+        BackHouse x = Houses.withThings(6, 0);
         for (int worth = 11; worth <= 52; worth++) {
             x.mend(0, WORTH, worth);
             Due.due("count(2)", x.count(2), Math.min(40, worth - 10));
@@ -256,7 +251,7 @@ public final class DeedTest {
     }
 
     private static void noChanges() {
-        BackHouse x = withThings(6, 0);
+        BackHouse x = Houses.withThings(6, 0);
         x.mend(0, WORTH, 50);
         x.undo();
         x.thing(6, 0);
@@ -276,7 +271,7 @@ public final class DeedTest {
     }
 
     private static void undoOfEachKind() {
-        BackHouse x = withThings(206, 3);
+        BackHouse x = Houses.withThings(206, 3);
         int[] first = {2, 6, 3, 10, 0, 2, 3, 1};
         int[] then = {4, 7, 1, 99, 128, 9, 20, 0};
         for (int what = WHOSE; what <= PRICE; what++) {

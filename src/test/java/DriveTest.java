@@ -20,14 +20,6 @@ public final class DriveTest {
         Due.close();
     }
 
-    private static BackHouse withThings(int... pairs) {
-        BackHouse x = new BackHouse();
-        for (int i = 0; i + 1 < pairs.length; i += 2) {
-            x.thing(pairs[i], pairs[i + 1]);
-        }
-        return x;
-    }
-
     private static void driveIs(String of, BackHouse x, int told, int... want) {
         for (int what = MINUTES; what <= COST; what++) {
             Due.due(of + ": drive(" + told + ", " + what + ")", x.drive(told, what), want[what]);
@@ -41,15 +33,8 @@ public final class DriveTest {
         Due.due(of + ": no more goings", x.going(told, things.length, 1), BackHouse.NOT);
     }
 
-    private static void law(BackHouse x, String text) {
-        for (int i = 0; i < text.length(); i++) {
-            x.feed(text.charAt(i));
-        }
-        Due.due("law " + text, x.law(), 1);
-    }
-
     private static void atTheHouse() {
-        BackHouse x = withThings(0, 0, 112, 0);
+        BackHouse x = Houses.withThings(0, 0, 112, 0);
         x.mend(1, PACE, 9);
         driveIs("nothing forgotten", x, 0, 18, 0, 0, 0, 18);
         driveIs("one, though its chance is 0", x, 1, 21, 1, 0, 0, 21);
@@ -59,7 +44,7 @@ public final class DriveTest {
 
     private static void byNumbers() {
         // 3 and 4 come to mind; 3 sets off 0, which then is the least of those there.
-        BackHouse x = withThings(6, 5, 6, 0, 6, 0, 6, 0, 6, 0);
+        BackHouse x = Houses.withThings(6, 5, 6, 0, 6, 0, 6, 0, 6, 0);
         x.mend(3, SETS_OFF, 1);
         goingsAre("the least that is there", x, 25, 3, 0, 4);
         x.mend(1, SETS_OFF, 16);
@@ -73,7 +58,7 @@ public final class DriveTest {
     }
 
     private static void turningBack() {
-        BackHouse x = withThings(6, 2, 6, 2, 6, 6);
+        BackHouse x = Houses.withThings(6, 2, 6, 2, 6, 6);
         x.mend(0, WORTH, 12);
         driveIs("as much as the way twice", x, 1, 18, 0, 0, 1, 30);
         x.mend(0, WORTH, 13);
@@ -86,13 +71,13 @@ public final class DriveTest {
         driveIs("at the last stop, too", x, 7, 18 + 12 + 6 + 36 + 3, 3, 2, 0, 75);
         x.mend(2, WORTH, 36);
         driveIs("left at the last stop", x, 7, 36, 2, 1, 4, 72);
-        law(x, "s*10+k");
+        Due.due("law", Houses.law(x, "s*10+k"), 1);
         Due.due("s at stop 2", x.going(3, 0, 2), 20);
         Due.due("k at stop 2", x.going(3, 1, 2), 21);
     }
 
     private static void leftForGood() {
-        BackHouse x = withThings(6, 1, 6, 3, 6, 5);
+        BackHouse x = Houses.withThings(6, 1, 6, 3, 6, 5);
         x.mend(0, WORTH, 5);
         x.mend(1, WORTH, 50);
         x.mend(2, WORTH, 1);
@@ -105,7 +90,7 @@ public final class DriveTest {
     }
 
     private static void setOffFromAfar() {
-        BackHouse x = withThings(6, 6, 6, 4, 6, 0);
+        BackHouse x = Houses.withThings(6, 6, 6, 4, 6, 0);
         x.mend(2, SETS_OFF, 2);
         x.mend(1, SETS_OFF, 1);
         driveIs("a chain over stops", x, 7, 27, 3, 0, 0, 27);
@@ -114,7 +99,7 @@ public final class DriveTest {
     }
 
     private static void pricesAndWays() {
-        BackHouse x = withThings(6, 1, 6, 2);
+        BackHouse x = Houses.withThings(6, 1, 6, 2);
         x.mend(0, WAY, 20);
         x.mend(1, WAY, 1);
         driveIs("ways", x, 0, 33, 0, 0, 0, 33);
@@ -130,7 +115,7 @@ public final class DriveTest {
     }
 
     private static void goingIsToldWhole() {
-        BackHouse x = withThings(506, 0, 306, 1);
+        BackHouse x = Houses.withThings(506, 0, 306, 1);
         x.mend(5, PACE, 4);
         x.mend(1, WORTH, 99);
         int[][] want = {{5, 0, 5}, {3, 1, 3}};
@@ -141,13 +126,13 @@ public final class DriveTest {
         }
         Due.due("going(3, 2, 0)", x.going(3, 2, 0), BackHouse.NOT);
         Due.due("going(3, MAX, 0)", x.going(3, Integer.MAX_VALUE, 0), BackHouse.NOT);
-        BackHouse eight = withThings(6, 0, 6, 0, 6, 0, 6, 0, 6, 0, 6, 0, 6, 0, 106, 0);
+        BackHouse eight = Houses.withThings(6, 0, 6, 0, 6, 0, 6, 0, 6, 0, 6, 0, 6, 0, 106, 0);
         Due.due("an eighth going", eight.going(255, 7, 0), 1);
         Due.due("no ninth going", eight.going(255, 8, 0), BackHouse.NOT);
     }
 
     private static void refusals() {
-        BackHouse x = withThings(6, 0, 6, 3);
+        BackHouse x = Houses.withThings(6, 0, 6, 3);
         int[] noSet = {4, 7, 256, -1, Integer.MAX_VALUE, Integer.MIN_VALUE};
         for (int told : noSet) {
             Due.due("drive(" + told + ", 0)", x.drive(told, 0), BackHouse.BAD);
@@ -170,7 +155,7 @@ public final class DriveTest {
     }
 
     private static void aloud() {
-        BackHouse x = withThings(6, 0, 106, 3, 206, 6);
+        BackHouse x = Houses.withThings(6, 0, 106, 3, 206, 6);
         x.mend(0, SETS_OFF, 255);
         x.mend(4, PACE, 9);
         Due.due("nobody goes", x.aloud(0, 4), 18);
@@ -180,26 +165,28 @@ public final class DriveTest {
         x.mend(2, WAY, 20);
         x.mend(0, PRICE, 9);
         Due.due("ways, no price", x.aloud(7, 4), 35 + 12);
-        law(x, "n*10+s*5+k*7+(w=30)");
+        Due.due("law", Houses.law(x, "n*10+s*5+k*7+(w=30)"), 1);
         Due.due("n, w, s, k", x.aloud(7, 4), 35 + 31);
     }
 
     private static void who() {
-        BackHouse x = withThings(6, 0, 106, 3);
+        BackHouse x = Houses.withThings(6, 0, 106, 3);
         Due.due("all are alike", x.who(3), 0);
         x.mend(3, PACE, 1);
         x.mend(5, PACE, 1);
         Due.due("of like ones the least number", x.who(3), 3);
         Due.due("nobody goes", x.who(0), 0);
-        law(x, "10-p");
+        x.mend(1, PACE, 1);
+        Due.due("the second person", x.who(3), 1);
+        Due.due("law", Houses.law(x, "10-p"), 1);
         x.mend(4, PACE, 9);
         Due.due("by the law", x.who(1), 4);
-        law(x, "p+99");
+        Due.due("law", Houses.law(x, "p+99"), 1);
         Due.due("held minutes are alike", x.who(1), 0);
     }
 
     private static void onWith() {
-        BackHouse x = withThings(6, 0, 6, 2, 6, 5, 6, 6);
+        BackHouse x = Houses.withThings(6, 0, 6, 2, 6, 5, 6, 6);
         x.mend(1, WORTH, 99);
         x.mend(2, WORTH, 99);
         Due.due("none", x.onWith(0), 0);
@@ -218,7 +205,7 @@ public final class DriveTest {
         Due.due("no things: first(0)", none.first(0), BackHouse.NOT);
         Due.due("no things: first(1)", none.first(1), BackHouse.NOT);
         Due.due("no things: first(2)", none.first(2), BackHouse.BAD);
-        BackHouse x = withThings(0, 0, 0, 6, 0, 6);
+        BackHouse x = Houses.withThings(0, 0, 0, 6, 0, 6);
         x.mend(1, WORTH, 30);
         x.mend(2, WORTH, 30);
         // Both at once are worth the way back: 18 + 36 + 6; one alone is left: 18 + 30; with 0: 3 more.
@@ -235,13 +222,19 @@ public final class DriveTest {
         Due.due("all are alike: cost", x.first(1), 0);
         Due.due("first(-1)", x.first(-1), BackHouse.BAD);
         Due.due("first(2)", x.first(2), BackHouse.BAD);
-        BackHouse one = withThings(0, 6);
+        BackHouse two = Houses.withThings(0, 0, 0, 6);
+        two.mend(1, WORTH, 99);
+        two.mend(0, SETS_OFF, 2);
+        // 0 sets 1 off at the house, 24; 1 alone is worth 18 + 36 + 3.
+        Due.due("the second thing alone", two.first(0), 2);
+        Due.due("the second thing's cost", two.first(1), 57);
+        BackHouse one = Houses.withThings(0, 6);
         Due.due("one thing", one.first(0), 1);
         Due.due("one thing's cost", one.first(1), 28);
     }
 
     private static void chain() {
-        BackHouse x = withThings(0, 0, 0, 6, 0, 6, 0, 1);
+        BackHouse x = Houses.withThings(0, 0, 0, 6, 0, 6, 0, 1);
         Due.due("itself", x.chain(0), 1);
         x.mend(0, SETS_OFF, 1);
         Due.due("itself once", x.chain(0), 1);

@@ -6,22 +6,12 @@ public final class LawTest {
         faults();
         lawsThatStand();
         values();
+        signsByThemselves();
         lines();
         heldMinutes();
         names();
         aFaultLeavesTheLaw();
         Due.close();
-    }
-
-    private static void feedAll(BackHouse x, String text) {
-        for (int i = 0; i < text.length(); i++) {
-            x.feed(text.charAt(i));
-        }
-    }
-
-    private static int law(BackHouse x, String text) {
-        feedAll(x, text);
-        return x.law();
     }
 
     private static void feed() {
@@ -48,7 +38,7 @@ public final class LawTest {
             longest.append("+n");
         }
         x.thing(12, 0);
-        Due.due("120 bytes that are a law", law(x, longest.toString()), 1);
+        Due.due("120 bytes that are a law", Houses.law(x, longest.toString()), 1);
         Due.due("59 operations", x.going(1, 0, 2), 60);
     }
 
@@ -57,15 +47,15 @@ public final class LawTest {
             "(n", "(", ")", "n)", "(n))", "(n?p)", "(n;p)", "()", "12345", "1234p", "1 ", " 1", "n n", "nn", "np", "1n",
             "n1", "(n)(", "(n)n", "n<p<k", "n<p=k", "n=p>k", "n<p&k<w<s", "!", "-", "n!", "n--", "n<<p", "n==p", "n||p",
             "n+*p", "n+%", "*n", "/n", "%n", "x", "n;x", "n?x", "N", "\0", "n\377", "!!!!!!!n", "-------n", "(((((((n",
-            "!-(!-(-n", "((((((n)))))", "((((((n", "n+!!!!!!p;((((((-", "!!!!!!", "0000;00000"};
+            "!-(!-(-n", "((((((n)))))", "((((((n", "n+!!!!!!p;((((((-", "!!!!!!", "0000;00000", "n?!!!!!!!n"};
         int[] places = {0, -1, 0, 2, 2, 2, 2, 2, 2, 2, 0, 0, 0, 3, 2, 2,
             2, 1, 0, 1, 3, 2, 2, 1, 4, 4, 1, 0, 1, 1, 1, 1,
             1, 3, 3, 3, 3, 3, 7, 1, 1, 1, 3, 2, 2, 2,
             2, 2, 0, 0, 0, 0, 2, 2, 0, 0, 1, 6, 6, 6,
-            6, 12, 7, 16, 6, 9};
+            6, 12, 7, 16, 6, 9, 8};
         BackHouse x = new BackHouse();
         for (int i = 0; i < texts.length; i++) {
-            Due.due("law " + texts[i], law(x, texts[i]), places[i] < 0 ? 1 : -100 - places[i]);
+            Due.due("law " + texts[i], Houses.law(x, texts[i]), places[i] < 0 ? 1 : -100 - places[i]);
             Due.due("the tape behind " + texts[i], x.count(1), 0);
         }
     }
@@ -73,10 +63,11 @@ public final class LawTest {
     private static void lawsThatStand() {
         String[] texts = {"0", "9999", "n", "p", "k", "w", "s", "!n", "-n", "(n)", "n?p", "n;p", "n?p;k?w;s",
             "n<p", "n=p", "n>p", "n<p|k<w", "n<p&k=w", "n--p", "n-!p", "n*-p", "(n<p)<k", "!!!!!!n", "------n",
-            "((((((n))))))", "!!!!!!n+!!!!!!n", "(((n)))+((((((n))))))", "!(-(!(n)))", "n+p-k*w/s%n&n|k", "0001"};
+            "((((((n))))))", "!!!!!!n+!!!!!!n", "(((n)))+((((((n))))))", "!(-(!(n)))", "n+p-k*w/s%n&n|k", "0001",
+            "!!!!!!n?!!!!!!n;!!!!!!n", "((((((n))))))*((((((n))))))<((((((n))))))"};
         BackHouse x = new BackHouse();
         for (String text : texts) {
-            Due.due("law " + text, law(x, text), 1);
+            Due.due("law " + text, Houses.law(x, text), 1);
         }
     }
 
@@ -84,7 +75,7 @@ public final class LawTest {
     private static void value(String expression, String wanted) {
         BackHouse x = new BackHouse();
         x.thing(12, 0);
-        Due.due("law " + expression, law(x, "(" + expression + ")=(" + wanted + ")?2;3"), 1);
+        Due.due("law " + expression, Houses.law(x, "(" + expression + ")=(" + wanted + ")?2;3"), 1);
         Due.due(expression + " is " + wanted, x.going(1, 0, 2), 2);
     }
 
@@ -105,8 +96,18 @@ public final class LawTest {
     private static int minutes(String text) {
         BackHouse x = new BackHouse();
         x.thing(12, 0);
-        Due.due("law " + text, law(x, text), 1);
+        Due.due("law " + text, Houses.law(x, text), 1);
         return x.going(1, 0, 2);
+    }
+
+    /** Without the sign = of value(): a broken one would hide there. */
+    private static void signsByThemselves() {
+        String[] texts = {"4=5?2;3", "5=5?2;3", "4<5?2;3", "5<5?2;3", "5>4?2;3", "5>5?2;3", "0|0?2;3", "0|9?2;3",
+            "9&0?2;3", "9&9?2;3", "!9?2;3", "!0?2;3", "3+4", "9-4-3", "3*4", "20/3", "20%7", "9-(4=5)", "-4+9"};
+        int[] want = {3, 2, 2, 3, 2, 3, 3, 2, 3, 2, 3, 2, 7, 2, 12, 6, 6, 9, 5};
+        for (int i = 0; i < texts.length; i++) {
+            Due.due(texts[i], minutes(texts[i]), want[i]);
+        }
     }
 
     private static void lines() {
@@ -145,14 +146,14 @@ public final class LawTest {
         int[] second = {1, 2, 10, 58, 13};
         int[] aloud = {2, 5, 9, 60, 9};
         for (int i = 0; i < texts.length; i++) {
-            law(x, texts[i]);
+            Houses.law(x, texts[i]);
             Due.due(texts[i] + " of going 0", x.going(3, 0, 2), first[i]);
             Due.due(texts[i] + " of going 1", x.going(3, 1, 2), second[i]);
             Due.due(texts[i] + " aloud", x.aloud(3, 1), 18 + aloud[i]);
         }
-        law(x, "w=95");
+        Houses.law(x, "w=95");
         Due.due("all worth aloud is 95", x.aloud(3, 0), 18 + 1);
-        law(x, "w-35");
+        Houses.law(x, "w-35");
         Due.due("all worth aloud", x.aloud(3, 0), 18 + 60);
         Due.due("the worth of one", x.aloud(1, 0), 18 + 2);
     }
@@ -160,12 +161,12 @@ public final class LawTest {
     private static void aFaultLeavesTheLaw() {
         BackHouse x = new BackHouse();
         x.thing(12, 0);
-        law(x, "7");
-        Due.due("a fault", law(x, "8+"), -102);
+        Houses.law(x, "7");
+        Due.due("a fault", Houses.law(x, "8+"), -102);
         Due.due("the law as it was", x.going(1, 0, 2), 7);
         Due.due("an empty tape", x.law(), -100);
         Due.due("the law as it was still", x.going(1, 0, 2), 7);
-        Due.due("another law", law(x, "8"), 1);
+        Due.due("another law", Houses.law(x, "8"), 1);
         Due.due("the other law", x.going(1, 0, 2), 8);
     }
 }

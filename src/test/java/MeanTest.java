@@ -16,14 +16,6 @@ public final class MeanTest {
         Due.close();
     }
 
-    private static BackHouse withThings(int... pairs) {
-        BackHouse x = new BackHouse();
-        for (int i = 0; i + 1 < pairs.length; i += 2) {
-            x.thing(pairs[i], pairs[i + 1]);
-        }
-        return x;
-    }
-
     private static void meanIs(String of, BackHouse x, long above, long below) {
         Due.due(of + ": mean(0)", x.mean(0), above);
         Due.due(of + ": mean(1)", x.mean(1), below);
@@ -48,23 +40,23 @@ public final class MeanTest {
 
     private static void mean() {
         meanIs("no things", new BackHouse(), 18, 1);
-        meanIs("every second drive", withThings(6, 0), 39, 2);
-        meanIs("never", withThings(0, 0), 18, 1);
-        meanIs("always", withThings(12, 0), 21, 1);
-        meanIs("a fourth and a third", withThings(3, 0, 4, 0), 79, 4);
-        meanIs("left every second drive", withThings(6, 6), 23, 1);
-        BackHouse free = withThings(6, 6);
+        meanIs("every second drive", Houses.withThings(6, 0), 39, 2);
+        meanIs("never", Houses.withThings(0, 0), 18, 1);
+        meanIs("always", Houses.withThings(12, 0), 21, 1);
+        meanIs("a fourth and a third", Houses.withThings(3, 0, 4, 0), 79, 4);
+        meanIs("left every second drive", Houses.withThings(6, 6), 23, 1);
+        BackHouse free = Houses.withThings(6, 6);
         free.mend(0, PRICE, 0);
         free.mend(0, WORTH, 0);
         meanIs("0 by 1", free, 0, 1);
-        BackHouse x = withThings(6, 0, 6, 6);
+        BackHouse x = Houses.withThings(6, 0, 6, 6);
         x.mend(0, SETS_OFF, 2);
         // 18; 21; 28 (left); 24 (both had).
         meanIs("each for itself", x, 91, 4);
     }
 
     private static void meanFollowsWhatIsMended() {
-        BackHouse x = withThings(6, 0);
+        BackHouse x = Houses.withThings(6, 0);
         meanIs("at first", x, 39, 2);
         x.mend(0, PACE, 3);
         meanIs("a pace", x, 20, 1);
@@ -89,7 +81,7 @@ public final class MeanTest {
 
     private static void likely() {
         likelyIs("no things", new BackHouse(), -1, 1, 1);
-        BackHouse x = withThings(6, 0, 4, 6, 12, 6);
+        BackHouse x = Houses.withThings(6, 0, 4, 6, 12, 6);
         x.mend(0, SETS_OFF, 2);
         likelyIs("at the house", x, 0, 0, 1);
         likelyIs("set off every second drive", x, 1, 1, 6);
@@ -103,7 +95,7 @@ public final class MeanTest {
     }
 
     private static void eightThings() {
-        BackHouse x = withThings(5, 0, 5, 0, 5, 0, 5, 0, 5, 0, 5, 0, 5, 0, 5, 0);
+        BackHouse x = Houses.withThings(5, 0, 5, 0, 5, 0, 5, 0, 5, 0, 5, 0, 5, 0, 5, 0);
         meanIs("eight things", x, 28, 1);
         likelyIs("no going of eight", x, -1, 5764801, 429981696);
         doorstepIs("eight alike", x, 0, 107, 4);
@@ -112,10 +104,10 @@ public final class MeanTest {
     }
 
     private static void doorstep() {
-        doorstepIs("a fourth and a third", withThings(3, 0, 4, 0), 1, 75, 4);
-        doorstepIs("of like ones the least", withThings(3, 0, 3, 0), 0, 75, 4);
-        doorstepIs("never forgotten anyway", withThings(0, 0, 0, 3), 0, 18, 1);
-        BackHouse x = withThings(3, 0, 4, 0);
+        doorstepIs("a fourth and a third", Houses.withThings(3, 0, 4, 0), 1, 75, 4);
+        doorstepIs("of like ones the least", Houses.withThings(3, 0, 3, 0), 0, 75, 4);
+        doorstepIs("never forgotten anyway", Houses.withThings(0, 0, 0, 3), 0, 18, 1);
+        BackHouse x = Houses.withThings(3, 0, 4, 0);
         x.mend(0, SETS_OFF, 2);
         x.mend(1, 2, 6);
         // Not 0: 18 + 10 / 3. Not 1: 18 + 3 / 4.
@@ -126,30 +118,34 @@ public final class MeanTest {
     }
 
     private static void list() {
-        BackHouse x = withThings(3, 0, 4, 0);
+        BackHouse x = Houses.withThings(3, 0, 4, 0);
         listIs("of none", x, 0, 0, 79, 4);
         listIs("of one", x, 1, 2, 113, 6);
         listIs("of two", x, 2, 3, 439, 24);
         listIs("of more than there are", x, 3, 3, 439, 24);
-        listIs("never forgotten anyway", withThings(0, 0, 0, 0), 3, 0, 18, 1);
-        listIs("of like ones the least", withThings(6, 0, 6, 0), 1, 1, 157, 8);
-        BackHouse four = withThings(12, 0, 12, 0, 12, 0, 12, 0);
+        listIs("never forgotten anyway", Houses.withThings(0, 0, 0, 0), 3, 0, 18, 1);
+        listIs("of like ones the least", Houses.withThings(6, 0, 6, 0), 1, 1, 157, 8);
+        BackHouse four = Houses.withThings(12, 0, 12, 0, 12, 0, 12, 0);
         listIs("four for sure, of two", four, 2, 3, 25, 1);
         listIs("four for sure, of three", four, 3, 7, 93, 4);
         listIs("no things", new BackHouse(), 3, 0, 18, 1);
     }
 
     private static void longerListsReadWorse() {
-        BackHouse x = withThings(1, 0, 12, 0);
+        BackHouse x = Houses.withThings(1, 0, 12, 0);
         // {1}: 1/12 + 1/12; both: 2/12 * 13/12, which is more.
         listIs("a longer one is worse", x, 3, 2, 37, 2);
         x.mend(1, CHANCE, 10);
         // {1}: 10/144 + 12/144; both: 2/12 * 11/12: like ones.
         listIs("of like ones fewer", x, 3, 2, 443, 24);
+        // Of 2: 2 * 9/144 + 1/12; of 3: 3 * 10/144: like ones.
+        listIs("of like ones two", Houses.withThings(4, 0, 5, 0, 1, 0), 3, 3, 149, 8);
+        // Of 2: 2 * 17/144 + 2/12; of 3: 3 * 19/144, which is less.
+        listIs("three are just better", Houses.withThings(8, 0, 9, 0, 2, 0), 3, 7, 307, 16);
     }
 
     private static void refusals() {
-        BackHouse x = withThings(6, 0, 6, 6);
+        BackHouse x = Houses.withThings(6, 0, 6, 6);
         int[] noPart = {-1, 2, 3, Integer.MAX_VALUE, Integer.MIN_VALUE};
         for (int part : noPart) {
             Due.due("mean(" + part + ")", x.mean(part), BAD);
@@ -172,7 +168,7 @@ public final class MeanTest {
         Due.due("no things: costs", none.drawn(5, 30, 0), 540);
         Due.due("no things: none goes", none.drawn(5, 30, 1), 30);
         // From 1 on the numbers, shifted by 8, are 2, 8, 0 and 11 by twelve.
-        BackHouse x = withThings(3, 0, 8, 0);
+        BackHouse x = Houses.withThings(3, 0, 8, 0);
         Due.due("below its chance, not below", x.drawn(1, 1, 0), 21);
         Due.due("somebody goes", x.drawn(1, 1, 1), 0);
         Due.due("the draws go on", x.drawn(1, 2, 0), 42);

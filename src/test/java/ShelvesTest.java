@@ -247,6 +247,13 @@ public final class ShelvesTest {
         }
         rowIs(x, 0, 1, 2, 3, 4, 5);
         rowIs(x, 1, 10, 20, 30, 40);
+        x.row(5, 0, 3);
+        Due.due("bytes to a body", x.shift(5, 0, 3, 0, 0), -12);
+        Due.due("a body to bytes", x.shift(3, 0, 5, 0, 0), -12);
+        x.row(3, 0, 3);
+        x.keep(3, 0);
+        Due.due("bytes to a body where bytes were", x.shift(5, 0, 3, 0, 1), -12);
+        Due.due("a body where bytes were to bytes", x.shift(3, 0, 5, 0, 1), -12);
     }
 
     private static void count() {

@@ -69,10 +69,7 @@ public final class ThingsTest {
 
     private static BackHouse withRow(int sort, int... elements) {
         BackHouse x = new BackHouse();
-        x.row(2, sort, elements.length);
-        for (int i = 0; i < elements.length; i++) {
-            x.put(2, i, elements[i]);
-        }
+        Houses.row(x, 2, sort, elements);
         return x;
     }
 

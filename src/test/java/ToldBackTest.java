@@ -9,13 +9,6 @@ public final class ToldBackTest {
         Due.close();
     }
 
-    private static void row(BackHouse x, int shelf, int... elements) {
-        x.row(shelf, 0, elements.length);
-        for (int i = 0; i < elements.length; i++) {
-            x.put(shelf, i, elements[i]);
-        }
-    }
-
     /** 0 by person 1 in 3 minutes, sets off 2; 1 by person 4 in 9; 2 by person 2 in 3, at stop 6; 3 is left. */
     private static BackHouse house() {
         BackHouse x = new BackHouse();
@@ -36,22 +29,22 @@ public final class ToldBackTest {
             {1, 3, 2, 3, 4, 9}, {257, 259, 4, 9, 2, 3}, {1, 3, 4, -9, 2, 3}};
         int[] want = {BackHouse.NOT, 2, 2, 2, 2, 3, 3, 0, 0, 0, 0, 1, 1, BackHouse.NOT, 1};
         for (int i = 0; i < rows.length; i++) {
-            row(x, 3, rows[i]);
+            Houses.row(x, 3, 0, rows[i]);
             Due.due("row " + i + " judged by 7", x.judge(3, 7), want[i]);
             Due.due("row " + i + " judged by 15", x.judge(3, 15), want[i]);
         }
-        row(x, 5, new int[60]);
+        Houses.row(x, 5, 0, new int[60]);
         Due.due("sixty bytes", x.judge(5, 7), 0);
     }
 
     private static void judgeOfNothing() {
         BackHouse x = house();
-        row(x, 0);
+        Houses.row(x, 0, 0);
         Due.due("no goings, no twos", x.judge(0, 0), BackHouse.NOT);
         Due.due("left is no going", x.judge(0, 8), BackHouse.NOT);
-        row(x, 0, 0);
+        Houses.row(x, 0, 0, 0);
         Due.due("a two's end lacks", x.judge(0, 0), 0);
-        row(x, 0, 0, 0);
+        Houses.row(x, 0, 0, 0, 0);
         Due.due("too much", x.judge(0, 0), 0);
     }
 
@@ -63,15 +56,15 @@ public final class ToldBackTest {
 
     private static void which() {
         BackHouse x = house();
-        row(x, 1, 4, 9);
+        Houses.row(x, 1, 0, 4, 9);
         // 1 alone, or with 2 or 3 or both left behind.
         whichIs(x, 1, 4, 2, 2);
-        row(x, 1, 1, 3, 2, 3);
+        Houses.row(x, 1, 0, 1, 3, 2, 3);
         whichIs(x, 1, 2, 5, 5);
-        row(x, 1);
+        Houses.row(x, 1, 0);
         whichIs(x, 1, 4, 0, 0);
         x.mend(2, 0, 1);
-        row(x, 1, 1, 3);
+        Houses.row(x, 1, 0, 1, 3);
         x.mend(2, 2, 0);
         // 0 or 2, each with 3 or without it: nothing is sure.
         whichIs(x, 1, 4, 1, 0);
@@ -81,12 +74,12 @@ public final class ToldBackTest {
 
     private static void whichOfNone() {
         BackHouse x = house();
-        row(x, 1, 5, 9);
+        Houses.row(x, 1, 0, 5, 9);
         whichIs(x, 1, 0, BackHouse.NOT, 0);
-        row(x, 1, 4, 9, 1);
+        Houses.row(x, 1, 0, 4, 9, 1);
         whichIs(x, 1, 0, BackHouse.NOT, 0);
         BackHouse none = new BackHouse();
-        row(none, 0);
+        Houses.row(none, 0, 0);
         whichIs(none, 0, 1, 0, 0);
     }
 
