@@ -998,8 +998,8 @@ public final class BackHouse {
             for (int going = 0; going < MOST_THINGS && minded != 0; going++) {
                 int thing = leastOf(minded);
                 int person = world.value(WHOSE, thing);
-                int took = world.law.minutes(1, world.value(PACE, person), goings, world.value(WORTH, thing), stop);
-                noteGoing(person, thing, took);
+                int pace = world.value(PACE, person);
+                noteGoing(person, thing, world.law.minutes(1, pace, goings, world.value(WORTH, thing), stop));
                 had |= 1 << thing;
                 minded = (minded | world.value(SETS_OFF, thing)) & open();
             }
