@@ -352,7 +352,7 @@ public final class BackHouse {
         if (!acts.has(body) || act < 0 || act >= Acts.ACTS) {
             return 0;
         }
-        return acts.perform(body, acts.kindOf(body), act, x, 0);
+        return acts.answer(body, act, x);
     }
 
     public int trace(int i) {
@@ -1295,8 +1295,12 @@ public final class BackHouse {
             ran++;
         }
 
+        int answer(int body, int act, int x) {
+            return perform(body, kindOf(body), act, x, 0);
+        }
+
         /** Runs the act's body as it is found from a kind upward. */
-        int perform(int self, int from, int act, int x, int depth) {
+        private int perform(int self, int from, int act, int x, int depth) {
             int at = nearest(from, act);
             if (at < 0 || depth >= DEEPEST) {
                 return 0;

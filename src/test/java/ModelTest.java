@@ -4,9 +4,10 @@ import java.util.Deque;
 import java.util.List;
 import java.util.Random;
 
-/** Random runs of 512 calls, each answer held against the model's. The seeds are fixed. */
+/** Random runs of calls, each answer held against the model's. The seeds are fixed. */
 public final class ModelTest {
-    private static final int RUNS = 120, CALLS = 512;
+    /** A step makes many calls at times, so the last one begins well ahead of the 512th call. */
+    private static final int RUNS = 600, LAST_BEGINS = 380;
 
     private final Random random;
     private final BackHouse x = new BackHouse();
@@ -23,6 +24,7 @@ public final class ModelTest {
     private int costs;
     private Model.Trip imageTrip;
     private int[] image;
+    private int unheldCalls;
 
     private ModelTest(long seed) {
         random = new Random(seed);
@@ -32,7 +34,8 @@ public final class ModelTest {
     public static void main(String[] args) {
         for (int run = 0; run < RUNS; run++) {
             ModelTest test = new ModelTest(run);
-            for (int i = 0; i < CALLS; i++) {
+            int before = Due.held();
+            for (int calls = 0; calls < LAST_BEGINS; calls = Due.held() - before + test.unheldCalls) {
                 test.call();
             }
         }
@@ -290,6 +293,7 @@ public final class ModelTest {
             row[i] = goings.get(i / 2)[i % 2 == 0 ? 0 : 2] + (upTo(20) == 0 ? 1 : 0);
             x.put(shelf, i, row[i]);
         }
+        unheldCalls += 1 + size;
     }
 
     private int refusalOfBytes(int shelf) {

@@ -112,20 +112,22 @@ public final class RulesTest {
     }
 
     private static void words(String source) {
-        String[] none = {"throw", "throws", "try", "catch", "finally", "synchronized", "assert", "import", "package",
-            "instanceof", "while", "Object", "Exception", "volatile", "native", "transient", "yield", "var", "record"};
+        String[] none = {"throw", "throws", "try", "catch", "finally", "synchronized", "assert", "package", "Object",
+            "Exception", "Thread", "Random", "volatile", "native", "transient"};
         for (String word : none) {
             Due.due("the word " + word, Pattern.compile("\\b" + word + "\\b").matcher(source).find() ? 1 : 0, 0);
         }
-        String[] noSigns = {"->", "::", "@", "\"", "Exact"};
+        String[] noSigns = {"::", "@", "Exact", "System.out", "System.err", "nanoTime", "currentTimeMillis", "identityHashCode"};
         for (String sign : noSigns) {
             Due.due("the sign " + sign, source.indexOf(sign), -1);
         }
-        // What the class uses of the library; more of it is to be looked up in LANGUAGE.md first.
-        Set<String> library = Set.of("Integer.bitCount", "Integer.MAX_VALUE", "Math.max", "Math.min", "Long.MAX_VALUE",
-            "Long.MIN_VALUE", "System.arraycopy");
-        Matcher used = Pattern.compile("\\b(Integer|Long|Math|System|Arrays|String|StringBuilder|ArrayList|List)\\b\\.?\\w*")
-            .matcher(source);
+        Matcher imported = Pattern.compile("\\bimport ([^;]*);").matcher(source);
+        while (imported.find()) {
+            boolean listed = imported.group(1).matches("java\\.util\\.(ArrayList|List|Arrays|Iterator)");
+            Due.due("import " + imported.group(1), listed ? 1 : 0, 1);
+        }
+        Matcher used = Pattern.compile("\\b(System|Arrays|List)\\.\\w+").matcher(source);
+        Set<String> library = Set.of("System.arraycopy", "Arrays.copyOf", "Arrays.copyOfRange", "Arrays.fill", "List.of");
         while (used.find()) {
             Due.due("of the library: " + used.group(), library.contains(used.group()) ? 1 : 0, 1);
         }
