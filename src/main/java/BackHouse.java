@@ -1023,7 +1023,7 @@ public final class BackHouse {
             minutes += minutesGone;
         }
 
-        /** The goings one by one are told of drives in thought alone, so they stay behind. */
+        /** The goings one by one and the last turn are told of drives in thought alone, so they stay behind. */
         void becomeLike(Drive other) {
             isOn = other.isOn;
             stop = other.stop;
@@ -1033,7 +1033,6 @@ public final class BackHouse {
             minutes = other.minutes;
             goings = other.goings;
             turns = other.turns;
-            lastTurn = other.lastTurn;
         }
     }
 

@@ -23,6 +23,7 @@ public final class DeedEdgesTest {
         whatNeverComesToMind();
         tellingTheSameIsNone();
         undoneTheLatestFirst();
+        undoneWhereItWas();
         undoOfNone();
         doneAgain();
         asLongAsNoOtherCame();
@@ -320,6 +321,31 @@ public final class DeedEdgesTest {
         }
     }
 
+    private static void undoneWhereItWas() {
+        Due.sentence("PACE of PEOPLE; WHOSE, CHANCE, STOP, WORTH, SETS OFF of THINGS; WAYS, PRICE");
+        BackHouse x = Houses.withThings(206, 3, 206, 3, 206, 3, 206, 3, 206, 3, 206, 3, 206, 3, 206, 3);
+        int[] atFirst = {2, 6, 3, 10, 0, 2, 3};
+        for (int what = WHOSE; what <= WAY; what++) {
+            for (int number = 5; number > 0; number--) {
+                x.mend(number, what, 4);
+            }
+        }
+        for (int what = WAY; what >= WHOSE; what--) {
+            for (int number = 1; number <= 5; number++) {
+                x.undo();
+                Due.due("of(" + number + ", " + what + ")", x.of(number, what), atFirst[what]);
+                Due.due("the one ahead", x.of(Math.min(5, number + 1), what), number < 5 ? 4 : atFirst[what]);
+            }
+        }
+        for (int what = WHOSE; what <= WAY; what++) {
+            for (int number = 5; number > 0; number--) {
+                x.redo();
+                Due.due("of(" + number + ", " + what + ") again", x.of(number, what), 4);
+                Due.due("the one behind", x.of(number - 1, what), atFirst[what]);
+            }
+        }
+    }
+
     private static void undoOfNone() {
         Due.sentence("UNDONE: how many may still be. STATE: none.");
         BackHouse x = Houses.withThings(6, 0);
@@ -395,6 +421,23 @@ public final class DeedEdgesTest {
             Due.due("redo()", x.redo(), STATE);
             Due.due("of(0, WORTH)", x.of(0, WORTH), 10 + many);
         }
+        BackHouse x = Houses.withThings(206, 3, 206, 3, 206, 3, 206, 3, 206, 3, 206, 3);
+        for (int i = 0; i < 45; i++) {
+            x.mend(i % 6, i % 7, 4 + i / 42);
+        }
+        for (int i = 44; i >= 5; i--) {
+            Due.due("undo of " + i, x.undo(), i - 5);
+            int[] atFirst = {2, 6, 3, 10, 0, 2, 3};
+            Due.due("of what it was", x.of(i % 6, i % 7), i >= 42 ? 4 : atFirst[i % 7]);
+        }
+        Due.due("undo()", x.undo(), STATE);
+        for (int i = 0; i < 5; i++) {
+            Due.due("what is no more kept", x.of(i, i), 4);
+        }
+        for (int i = 5; i < 45; i++) {
+            Due.due("redo of " + i, x.redo(), 44 - i);
+            Due.due("of what it is", x.of(i % 6, i % 7), 4 + i / 42);
+        }
     }
 
     private static void deedsAreNone() {
@@ -462,7 +505,8 @@ public final class DeedEdgesTest {
         for (int i = 0; i < 2; i++) {
             onTo(x, 5, 6, NOT);
             ledIs(x, 24 + 30 + 3, 3, 1, 4, 1, 67, NOT);
-            x.lock(2);
+            x.mend(3, CHANCE, 0);
+            Due.due("lock(2)", x.lock(2), 3);
             onTo(x, 1);
             Due.due("back()", x.back(), 18);
             ledIs(x, 18, 2, 0, 4, 0, 0, 4);

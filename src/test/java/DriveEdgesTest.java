@@ -410,6 +410,8 @@ public final class DriveEdgesTest {
         x.mend(1, WORTH, 99);
         Due.due("set off at STOP 0", x.onWith(3), 0);
         Due.due("alone", x.onWith(2), 6);
+        Due.due("and then both", x.onWith(3), 0);
+        Due.due("and then none", x.onWith(0), 0);
     }
 
     private static void onWithTheLast() {

@@ -26,6 +26,7 @@ public final class LawEdgesTest {
         heldWithin1And60();
         withoutAText();
         nOfOneAndAll();
+        pOfWhoGoes();
         kOfGoingsAhead();
         allWorth();
         sOfTheStop();
@@ -162,6 +163,7 @@ public final class LawEdgesTest {
         Due.sentence("At most 6 of ( ! - ahead of an O are open at once.");
         stand("!!!!!!n", "------n", "((((((n))))))", "!-(!-(n))", "(!(!(!n)))", "n+!!!!!!n", "n|------n");
         faultAt(6, "!!!!!!!n", "-------n", "(((((((n", "!-(!-(!", "!-(!-(-", "!-(!-((", "(((((-(", "------(", "((((((!");
+        faultAt(8, "n?!!!!!!!n", "n?-------n", "n?(((((((n", "n;!!!!!!!n", "n;((((((-n");
         faultAt(8, "n+!!!!!!!n", "n+((((((!n", "((((((n+-n", "((((((n+(n");
     }
 
@@ -298,17 +300,30 @@ public final class LawEdgesTest {
         }
     }
 
+    private static void pOfWhoGoes() {
+        Due.sentence("p PACE of who goes");
+        BackHouse x = Houses.withThings(0, 0, 100, 0, 200, 0, 300, 0, 400, 0, 500, 0);
+        for (int person = 0; person < 6; person++) {
+            x.mend(person, PACE, 9 - person);
+        }
+        Houses.law(x, "p*2");
+        for (int person = 0; person < 6; person++) {
+            Due.due("going(63, " + person + ", 2)", x.going(63, person, 2), 2 * (9 - person));
+            Due.due("aloud(1, " + person + ")", x.aloud(1, person), 18 + 2 * (9 - person));
+        }
+    }
+
     private static void kOfGoingsAhead() {
         Due.sentence("k how many GOINGS there were ahead in this drive");
         BackHouse x = Houses.withThings(0, 0, 0, 0, 0, 0, 0, 0, 0, 2, 0, 2, 0, 6, 0, 6);
         for (int thing = 4; thing < 8; thing++) {
             x.mend(thing, 3, 99);
         }
-        Houses.law(x, "k+1");
+        Houses.law(x, "k+5");
         for (int k = 0; k < 8; k++) {
-            Due.due("going(255, " + k + ", 2)", x.going(255, k, 2), k + 1);
+            Due.due("going(255, " + k + ", 2)", x.going(255, k, 2), k + 5);
         }
-        Due.due("aloud", x.aloud(255, 0), 18 + 1);
+        Due.due("aloud", x.aloud(255, 0), 18 + 5);
     }
 
     private static void allWorth() {
@@ -335,10 +350,10 @@ public final class LawEdgesTest {
             BackHouse x = Houses.withThings(0, stop, 0, 6);
             x.mend(0, 3, 99);
             x.mend(0, 4, 2);
-            Houses.law(x, "s+1");
-            Due.due("at " + stop, x.going(1, 0, 2), stop + 1);
-            Due.due("set off at " + stop, x.going(3, 1, 2), stop + 1);
-            Due.due("aloud", x.aloud(1, 0), 19);
+            Houses.law(x, "s+5");
+            Due.due("at " + stop, x.going(1, 0, 2), stop + 5);
+            Due.due("set off at " + stop, x.going(3, 1, 2), stop + 5);
+            Due.due("aloud", x.aloud(1, 0), 18 + 5);
         }
     }
 
@@ -353,6 +368,10 @@ public final class LawEdgesTest {
         Due.due("the law as it was", x.going(1, 0, 2), 9);
         Due.due("an empty tape", x.law(), -100);
         Due.due("the law as it was", x.going(1, 0, 2), 9);
+        Due.due("mean(0) by the law", x.mean(0), 27);
+        Due.due("another law", Houses.law(x, "10"), 1);
+        Due.due("mean(0) by the other law", x.mean(0), 28);
+        Due.due("the first one again", Houses.law(x, "9"), 1);
         Due.due("what was fed alone is no law", x.feed('5'), 1);
         Due.due("the law as it was", x.going(1, 0, 2), 9);
     }

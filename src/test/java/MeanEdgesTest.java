@@ -155,6 +155,11 @@ public final class MeanEdgesTest {
         likelyIs(Houses.withThings(12, 6), -1, 1, 1);
         likelyIs(eightOf(1, 0), -1, 214358881, 429981696);
         likelyIs(eightOf(11, 0), -1, 1, 429981696);
+        BackHouse left = eightOf(12, 6);
+        left.mend(0, PRICE, 9);
+        likelyIs(left, -1, 1, 1);
+        left.mend(7, STOP, 0);
+        likelyIs(left, -1, 0, 1);
     }
 
     private static void likelyIsBad() {
