@@ -84,6 +84,8 @@ public final class DeedEdgesTest {
         ledIs(x, 18 + 3 + 6 + 3, 2, 1, 4, 1, 40, NOT);
         x.lock(1);
         ledIs(x, 0, 0, 0, 0, 1, 40, 0);
+        Houses.toTheEnd(x);
+        ledIs(x, 18 + 3 + 6 + 3, 2, 1, 4, 2, 80, NOT);
     }
 
     private static void aDriveIsOn() {
@@ -547,7 +549,7 @@ public final class DeedEdgesTest {
     }
 
     private static void imageIsOfTheDriveAlone() {
-        Due.sentence("AN IMAGE keeps the drive .., and what LED tells");
+        Due.sentence("AN IMAGE keeps the drive that is on or was last, and what LED tells");
         BackHouse x = Houses.withThings(12, 6);
         x.lock(1);
         x.image();

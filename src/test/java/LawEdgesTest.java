@@ -134,7 +134,7 @@ public final class LawEdgesTest {
     }
 
     private static void namesAndNothingElse() {
-        Due.sentence("O = a number .., a NAME, ! O, - O, ( E )");
+        Due.sentence("a NAME, ! O, - O, ( E )");
         for (char c = 0; c < 256; c++) {
             boolean stands = "npkws0123456789".indexOf(c) >= 0;
             boolean begins = "!-(".indexOf(c) >= 0;

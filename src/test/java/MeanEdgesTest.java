@@ -190,6 +190,12 @@ public final class MeanEdgesTest {
         BackHouse x = Houses.withThings(12, 0, 3, 0);
         x.mend(0, SETS_OFF, 2);
         doorstepIs(x, 0, 75, 4);
+        // 0 and 1 together are worth the way and 60 minutes each; 2 is gone for in 60, too, and more often.
+        BackHouse pair = Houses.withThings(7, 6, 7, 6, 9, 0);
+        pair.mend(0, WORTH, 19);
+        pair.mend(1, WORTH, 19);
+        Houses.law(pair, "60");
+        doorstepIs(pair, 0, 889, 12);
     }
 
     private static void doorstepOfLikeOnes() {
