@@ -401,6 +401,13 @@ public final class DeedEdgesTest {
         x.undo();
         Due.due("a refused one did not come", x.mend(0, PACE, 10), BAD);
         Due.due("redo()", x.redo(), 0);
+        x.undo();
+        x.undo();
+        x.undo();
+        x.mend(0, WAY, 9);
+        Due.due("one behind none, three undone", x.redo(), STATE);
+        Due.due("count(2)", x.count(2), 1);
+        Due.due("of(0, WORTH)", x.of(0, WORTH), 10);
     }
 
     private static void fortyAtMost() {

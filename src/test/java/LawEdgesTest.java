@@ -270,11 +270,13 @@ public final class LawEdgesTest {
             minutesAre("" + pair[0], pair[1]);
             minutesAre("-" + pair[0], 1);
         }
-        BackHouse x = Houses.withThings(12, 0);
+        BackHouse x = Houses.withThings(12, 0, 12, 0);
         Houses.law(x, "99");
         Due.due("aloud, too", x.aloud(1, 0), 78);
+        Due.due("aloud for both, too", x.aloud(3, 0), 78);
         Houses.law(x, "-9");
         Due.due("aloud, too", x.aloud(1, 0), 19);
+        Due.due("aloud for both, too", x.aloud(3, 0), 19);
         Due.due("the minutes of the drive", x.drive(1, 0), 19);
     }
 

@@ -121,6 +121,8 @@ public final class ToldBackEdgesTest {
         judged(x, 1, NOT, 257, -253);
         judged(x, 1, 0, 1, -3);
         judged(x, 1, 0, -1, 3);
+        judged(x, 1, 0, 129, 3);
+        judged(x, 1, 0, 1, 131);
     }
 
     private static void longestRow() {
